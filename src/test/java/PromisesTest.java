@@ -1,9 +1,5 @@
 /** For each promise ordinary inputs, the edges that the document names, and wrong inputs. */
-public final class PromisesTest {
-    private static final int NONE = -1, BAD = -2, FULL = -3, TAKEN = -4, MISMATCH = -5, NO_ASSIGNMENT = -6, NO_PLAN = -7;
-    private static final int[] OUT = {-1, Integer.MIN_VALUE, Integer.MAX_VALUE};
-    private static final Checks checks = new Checks();
-
+public final class PromisesTest extends Calls {
     public static void main(String[] args) {
         promise1();
         promise2();
@@ -36,90 +32,6 @@ public final class PromisesTest {
         promise25();
         checks.end();
     }
-
-    // ---- helpers
-
-    private static void due(String call, int got, int want) { checks.due(call, got, want); }
-
-    private static FormationPlanner start(String part) {
-        checks.part(part);
-        return new FormationPlanner();
-    }
-
-    private static void drones(FormationPlanner x, int... cells) {
-        for (int cell : cells) due("addDrone(" + cell + ")", x.addDrone(cell), x.count(0) - 1);
-    }
-
-    private static void slots(FormationPlanner x, int... cells) {
-        for (int cell : cells) due("addSlot(" + cell + ")", x.addSlot(cell), x.count(1) - 1);
-    }
-
-    private static void obstacles(FormationPlanner x, int... cells) {
-        for (int cell : cells) due("setObstacle(" + cell + ", 1)", x.setObstacle(cell, 1), 0);
-    }
-
-    /** Leaves only these cells free. */
-    private static void onlyFree(FormationPlanner x, int... cells) {
-        for (int cell = 0; cell < 108; cell++) {
-            boolean free = false;
-            for (int kept : cells) free |= kept == cell;
-            if (!free) x.setObstacle(cell, 1);
-        }
-        due("obstacles", x.count(2), 108 - cells.length);
-    }
-
-    private static int read(FormationPlanner x, String text) {
-        for (int i = 0; i < text.length(); i++) due("append", x.append(text.charAt(i), 1), i + 1);
-        return x.readSlots();
-    }
-
-    private static void cells(FormationPlanner x, int what, int... cells) {
-        for (int i = 0; i < cells.length; i++) due("cellOf(" + what + ", " + i + ")", x.cellOf(what, i), cells[i]);
-        due("cellOf(" + what + ", " + cells.length + ")", x.cellOf(what, cells.length), NONE);
-        due("count(" + what + ")", x.count(what), cells.length);
-    }
-
-    /** The cells from the present time on; behind them the last one stays. */
-    private static void flies(FormationPlanner x, int drone, int... cells) {
-        for (int t = 0; t <= 60; t++) {
-            due("at(" + drone + ", " + t + ")", x.at(drone, t), cells[Math.min(t, cells.length - 1)]);
-        }
-    }
-
-    private static void acts(FormationPlanner x, int drone, int... actions) {
-        for (int t = 0; t < 60; t++) {
-            due("action(" + drone + ", " + t + ")", x.action(drone, t), t < actions.length ? actions[t] : 0);
-        }
-    }
-
-    private static void numbers(FormationPlanner x, int drone, int... numbers) {
-        for (int what = 0; what < 5; what++) due("flight(" + drone + ", " + what + ")", x.flight(drone, what), numbers[what]);
-    }
-
-    private static void assignments(FormationPlanner x, int... numbers) {
-        for (int what = 0; what < 4; what++) due("assignment(" + what + ")", x.assignment(what), numbers[what]);
-    }
-
-    /** The same for all drones as by slots. */
-    private static void assignedAre(FormationPlanner x, int... slots) {
-        for (int drone = 0; drone < slots.length; drone++) due("assigned(" + drone + ")", x.assigned(drone), slots[drone]);
-    }
-
-    /** A drone at 0 with a slot at 3, and its plan. */
-    private static FormationPlanner planned(String part) {
-        FormationPlanner x = start(part);
-        drones(x, 0);
-        slots(x, 3);
-        due("plan()", x.plan(), 3);
-        return x;
-    }
-
-    private static void stands(FormationPlanner x, boolean stands) {
-        due("count(7)", x.count(7), stands ? 1 : 0);
-        due("at(0, 0)", x.at(0, 0) == NO_PLAN ? 0 : 1, stands ? 1 : 0);
-    }
-
-    // ---- the promises
 
     private static void promise1() {
         FormationPlanner x = start("promise 1");
@@ -803,39 +715,6 @@ public final class PromisesTest {
         due("explain(2, 60)", x.explain(2, 60), NONE);
         x.fly(1);
         due("explain(1, 0)", x.explain(1, 0), NONE);
-        // The wait is put as early as it can be, where the first action alone would meet nobody.
-        x = start("promise 18, a wait without a conflict at once");
-        onlyFree(x, 0, 1, 2, 3, 4, 8, 14, 20, 26);
-        drones(x, 0, 26);
-        slots(x, 4, 2);
-        due("plan()", x.plan(), 4);
-        acts(x, 1, 4, 4, 4, 4);
-        due("explain(1, 0)", x.explain(1, 0), NONE);
-    }
-
-    /** Only these cells are free, with this wind in layer 0. */
-    private static FormationPlanner narrow(String part, int wind, int[] free, int[] drones, int[] slots) {
-        FormationPlanner x = start(part);
-        onlyFree(x, free);
-        x.setWind(0, wind);
-        drones(x, drones);
-        slots(x, slots);
-        return x;
-    }
-
-    private static int[] row(int... numbers) { return numbers; }
-
-    /** All explanations that are not NONE: drone, time, other drone. */
-    private static void explained(FormationPlanner x, int... triples) {
-        for (int drone = 0; drone < x.count(0); drone++) {
-            for (int time = 0; time < 60; time++) {
-                int want = NONE;
-                for (int i = 0; i < triples.length; i += 3) {
-                    if (triples[i] == drone && triples[i + 1] == time) want = triples[i + 2];
-                }
-                due("explain(" + drone + ", " + time + ")", x.explain(drone, time), want);
-            }
-        }
     }
 
     private static void promise18TwoTicks() {
